@@ -190,7 +190,7 @@ public final class NapkinDeeds {
 
     public int worth() {
         viewNow();
-        return scoreInView(BY_WORTH);
+        return worthInView();
     }
 
     public boolean holds() {
@@ -203,7 +203,7 @@ public final class NapkinDeeds {
             throw new NoSuchElementException("no such guest");
         }
         viewNow();
-        return scoreInView(guest);
+        return likingInView(guest);
     }
 
     private boolean isCell(long c) {
@@ -241,21 +241,19 @@ public final class NapkinDeeds {
         return scale.weigh(table.napkin.holdsLaw) != 0;
     }
 
-    private int scoreInView(int by) {
-        if (by == BY_WORTH) {
-            return scale.weigh(table.napkin.worthLaw);
-        }
-        if (by == BY_LEAST_LIKING) {
-            return leastLikingInView();
-        }
-        scale.serve(by, table.napkin.wantOf(by));
+    private int worthInView() {
+        return scale.weigh(table.napkin.worthLaw);
+    }
+
+    private int likingInView(int guest) {
+        scale.serve(guest, table.napkin.wantOf(guest));
         return scale.weigh(table.napkin.likesLaw);
     }
 
     private int leastLikingInView() {
         int least = 0;
         for (int guest = 0; guest < table.napkin.guests; guest++) {
-            int liking = scoreInView(guest);
+            int liking = likingInView(guest);
             if (guest == 0 || liking < least) {
                 least = liking;
             }
@@ -426,7 +424,7 @@ public final class NapkinDeeds {
         needFoldsOn(n);
         Ways on = growOn();
         int found = 0;
-        for (int node = 0; on.within(node, n); node++) {
+        for (int node = 0; node < on.size && on.depthOf(node) <= n; node++) {
             if (on.depthOf(node) == n) {
                 found += on.rowsTo(node);
             }
@@ -439,7 +437,7 @@ public final class NapkinDeeds {
         Ways on = growOn();
         on.forgetMet();
         int found = 0;
-        for (int node = 0; on.within(node, n); node++) {
+        for (int node = 0; node < on.size && on.depthOf(node) <= n; node++) {
             if (on.meet(node)) {
                 found++;
             }
@@ -452,7 +450,7 @@ public final class NapkinDeeds {
             throw new IllegalArgumentException("nothing such is told of a row");
         }
         Ways on = growOn();
-        for (int node = 0; on.within(node, MOST_FOLDS); node++) {
+        for (int node = 0; node < on.size && on.depthOf(node) <= MOST_FOLDS; node++) {
             viewOn(on, node);
             if (holdsInView()) {
                 return rowAnswer(on, node, what);
@@ -466,7 +464,7 @@ public final class NapkinDeeds {
         Ways on = growOn();
         on.forgetMet();
         int found = 0;
-        for (int node = 0; on.within(node, n); node++) {
+        for (int node = 0; node < on.size && on.depthOf(node) <= n; node++) {
             viewOn(on, node);
             if (holdsInView() && on.meet(node)) {
                 found++;
@@ -479,7 +477,9 @@ public final class NapkinDeeds {
         if (!isFoldsOn(n) || !asksOfGreatest(what)) {
             throw new IllegalArgumentException("not so many folds, or nothing such is told");
         }
-        return greatestAnswer(n, what, BY_WORTH);
+        Ways on = growOn();
+        int node = greatestNode(on, n, BY_WORTH);
+        return what == 0 ? scoreOn(on, node, BY_WORTH) : greatestAnswer(on, node, what);
     }
 
     public int reads(int tray, int what)
@@ -489,7 +489,7 @@ public final class NapkinDeeds {
             throw new IllegalArgumentException("no marks to read, or nothing such is told");
         }
         Ways on = growOn();
-        for (int node = 0; on.within(node, MOST_FOLDS); node++) {
+        for (int node = 0; node < on.size && on.depthOf(node) <= MOST_FOLDS; node++) {
             if (looksSo(on.layOf(node), told)) {
                 return rowAnswer(on, node, what);
             }
@@ -525,6 +525,10 @@ public final class NapkinDeeds {
         return what == 0 ? ways.depthOf(node) : ways.foldOf(node, what - 10);
     }
 
+    private static int greatestAnswer(Ways ways, int node, int what) {
+        return what == 1 ? ways.depthOf(node) : ways.foldOf(node, what - 10);
+    }
+
     private Ways growOn() {
         waysOn.grow(layNow());
         return waysOn;
@@ -542,13 +546,16 @@ public final class NapkinDeeds {
 
     private int scoreOn(Ways on, int node, int by) {
         viewOn(on, node);
-        return scoreInView(by);
+        if (by == BY_WORTH) {
+            return worthInView();
+        }
+        return by == BY_LEAST_LIKING ? leastLikingInView() : likingInView(by);
     }
 
     private int greatestNode(Ways on, int n, int by) {
         int greatest = 0;
         int score = scoreOn(on, 0, by);
-        for (int node = 1; on.within(node, n); node++) {
+        for (int node = 1; node < on.size && on.depthOf(node) <= n; node++) {
             int other = scoreOn(on, node, by);
             if (other > score) {
                 greatest = node;
@@ -556,15 +563,6 @@ public final class NapkinDeeds {
             }
         }
         return greatest;
-    }
-
-    private int greatestAnswer(int n, int what, int by) {
-        Ways on = growOn();
-        int node = greatestNode(on, n, by);
-        if (what == 0) {
-            return scoreOn(on, node, by);
-        }
-        return what == 1 ? on.depthOf(node) : on.foldOf(node, what - 10);
     }
 
     private boolean looksSo(Lay lay, Tray told) {
@@ -607,7 +605,7 @@ public final class NapkinDeeds {
             throws NoSuchElementException, IllegalStateException, IllegalArgumentException {
         Tray told = stackIn(tray);
         Ways from = growFromFlat();
-        for (int node = 0; from.within(node, MOST_FOLDS); node++) {
+        for (int node = 0; node < from.size && from.depthOf(node) <= MOST_FOLDS; node++) {
             if (liesInOrder(from.layOf(node), told)) {
                 return from.depthOf(node);
             }
@@ -619,7 +617,7 @@ public final class NapkinDeeds {
         Ways from = growFromFlat();
         Arrays.fill(met, 0);
         int found = 0;
-        for (int node = 0; from.within(node, MOST_FOLDS); node++) {
+        for (int node = 0; node < from.size && from.depthOf(node) <= MOST_FOLDS; node++) {
             Lay lay = from.layOf(node);
             if (lay.wide <= 1 && meet(lay.orderNumber())) {
                 found++;
@@ -633,7 +631,7 @@ public final class NapkinDeeds {
         Tray told = creasesIn(tray);
         Ways from = growFromFlat();
         int found = 0;
-        for (int node = 0; from.within(node, MOST_FOLDS); node++) {
+        for (int node = 0; node < from.size && from.depthOf(node) <= MOST_FOLDS; node++) {
             if (isCreasedSo(from.layOf(node), told)) {
                 found += from.rowsTo(node);
             }
@@ -648,7 +646,7 @@ public final class NapkinDeeds {
             throw new IllegalArgumentException("a fold before the first");
         }
         Ways from = growFromFlat();
-        for (int node = 0; from.within(node, MOST_FOLDS); node++) {
+        for (int node = 0; node < from.size && from.depthOf(node) <= MOST_FOLDS; node++) {
             if (isCreasedSo(from.layOf(node), told)) {
                 return from.foldOf(node, k);
             }
@@ -660,7 +658,7 @@ public final class NapkinDeeds {
         Ways from = growFromFlat();
         Arrays.fill(met, 0);
         int found = 0;
-        for (int node = 0; from.within(node, MOST_FOLDS); node++) {
+        for (int node = 0; node < from.size && from.depthOf(node) <= MOST_FOLDS; node++) {
             int number = from.layOf(node).creaseNumber();
             if (number < CREASE_ROWS && meet(number)) {
                 found++;
@@ -767,7 +765,7 @@ public final class NapkinDeeds {
         viewFlat();
         int bits = 0;
         for (int guest = 0; guest < table.napkin.guests && guest < likesNow.length; guest++) {
-            if (likesNow[guest] < scoreInView(guest)) {
+            if (likesNow[guest] < likingInView(guest)) {
                 bits |= 1 << guest;
             }
         }
@@ -778,7 +776,9 @@ public final class NapkinDeeds {
         if (!isFoldsOn(n) || !asksOfGreatest(what)) {
             throw new IllegalArgumentException("not so many folds, or nothing such is told");
         }
-        return greatestAnswer(n, what, BY_LEAST_LIKING);
+        Ways on = growOn();
+        int node = greatestNode(on, n, BY_LEAST_LIKING);
+        return what == 0 ? scoreOn(on, node, BY_LEAST_LIKING) : greatestAnswer(on, node, what);
     }
 
     public int better(int n) throws IllegalArgumentException {
@@ -788,7 +788,7 @@ public final class NapkinDeeds {
         keepLikes();
         on.forgetMet();
         int found = 0;
-        for (int node = 0; on.within(node, n); node++) {
+        for (int node = 0; node < on.size && on.depthOf(node) <= n; node++) {
             viewOn(on, node);
             if (pleasesInView() && on.meet(node)) {
                 found++;
@@ -815,14 +815,14 @@ public final class NapkinDeeds {
 
     private void keepLikes() {
         for (int guest = 0; guest < table.napkin.guests && guest < likesNow.length; guest++) {
-            likesNow[guest] = scoreInView(guest);
+            likesNow[guest] = likingInView(guest);
         }
     }
 
     private boolean pleasesInView() {
         boolean oneMore = false;
         for (int guest = 0; guest < table.napkin.guests && guest < likesNow.length; guest++) {
-            int liking = scoreInView(guest);
+            int liking = likingInView(guest);
             if (liking < likesNow[guest]) {
                 return false;
             }
@@ -838,7 +838,7 @@ public final class NapkinDeeds {
         Tray told = sightIn(tray, m);
         Ways from = growFromFlat();
         int found = 0;
-        for (int node = 0; from.within(node, m); node++) {
+        for (int node = 0; node < from.size && from.depthOf(node) <= m; node++) {
             if (looksSo(from.layOf(node), told)) {
                 found += from.rowsTo(node);
             }
@@ -852,7 +852,7 @@ public final class NapkinDeeds {
         Ways from = growFromFlat();
         int bits = 0;
         boolean any = false;
-        for (int node = 0; from.within(node, m); node++) {
+        for (int node = 0; node < from.size && from.depthOf(node) <= m; node++) {
             Lay lay = from.layOf(node);
             if (looksSo(lay, told)) {
                 bits = any ? bits & lay.creaseBits() : lay.creaseBits();
@@ -889,7 +889,7 @@ public final class NapkinDeeds {
     private int greatestGroup(Ways from, Tray told, int m, int column) {
         Arrays.fill(tally, 0);
         int greatest = 0;
-        for (int node = 0; from.within(node, m); node++) {
+        for (int node = 0; node < from.size && from.depthOf(node) <= m; node++) {
             Lay lay = from.layOf(node);
             if (looksSo(lay, told)) {
                 int mark = lay.markBeneath(column, table.now.marks);
@@ -1368,7 +1368,8 @@ public final class NapkinDeeds {
                 return false;
             }
             for (int i = 0; i < letters.length(); i++) {
-                if (letters.charAt(i) != byteAt(start + i)) {
+                int from = start + i;
+                if (from < 0 || from >= text.length || letters.charAt(i) != text[from]) {
                     return false;
                 }
             }
@@ -1480,12 +1481,12 @@ public final class NapkinDeeds {
         }
 
         private void forgetEldest() {
-            Moment eldest = past[0];
             for (int i = 1; i < past.length; i++) {
+                Moment eldest = past[i - 1];
                 past[i - 1] = past[i];
+                past[i] = eldest;
             }
-            past[past.length - 1] = eldest;
-            pasts = past.length - 1;
+            pasts--;
         }
 
         void goBack(int n) {
@@ -1712,7 +1713,6 @@ public final class NapkinDeeds {
 
         private final int[] facts = new int[FACTS];
         private final int[] pile = new int[PILE_ROOM];
-        private int piled = 0;
 
         void view(Lay lay, int[] marks, int folds) {
             int top = 0;
@@ -1750,58 +1750,35 @@ public final class NapkinDeeds {
 
         /** A sum's value, a truth's 1 or 0; without a law 0. */
         int weigh(int[] law) {
-            piled = 0;
+            int piled = 0;
             for (int i = 0; i < law.length; i++) {
-                weighCode(law[i]);
+                int code = law[i];
+                if (code < OP_NOT && piled < pile.length) {
+                    pile[piled] = code < FACT ? code : factAt(code - FACT);
+                    piled++;
+                } else if (code == OP_NOT && piled >= 1) {
+                    pile[piled - 1] = 1 - pile[piled - 1];
+                } else if (code > OP_NOT && piled >= 2) {
+                    piled--;
+                    pile[piled - 1] = join(code, pile[piled - 1], pile[piled]);
+                }
             }
-            return pop();
-        }
-
-        private void weighCode(int code) {
-            if (code < FACT) {
-                push(code);
-            } else if (code < OP_NOT) {
-                push(factAt(code - FACT));
-            } else if (code == OP_NOT) {
-                push(1 - pop());
-            } else {
-                int right = pop();
-                int left = pop();
-                push(join(code, left, right));
-            }
+            return piled >= 1 ? pile[piled - 1] : 0;
         }
 
         private static int join(int op, int left, int right) {
+            long value;
             switch (op) {
-                case OP_AND: return left & right;
-                case OP_OR: return left | right;
-                case OP_PLUS: return keep((long) left + right);
-                case OP_MINUS: return keep((long) left - right);
-                case OP_TIMES: return keep((long) left * right);
-                case OP_EQUAL: return left == right ? 1 : 0;
-                case OP_LESS: return left < right ? 1 : 0;
-                case OP_MORE: return left > right ? 1 : 0;
-                default: return 0;
+                case OP_AND: value = left & right; break;
+                case OP_OR: value = left | right; break;
+                case OP_PLUS: value = (long) left + right; break;
+                case OP_MINUS: value = (long) left - right; break;
+                case OP_TIMES: value = (long) left * right; break;
+                case OP_EQUAL: value = left == right ? 1 : 0; break;
+                case OP_LESS: value = left < right ? 1 : 0; break;
+                default: value = left > right ? 1 : 0; break;
             }
-        }
-
-        private static int keep(long value) {
             return (int) Math.max(-MOST_VALUE, Math.min(MOST_VALUE, value));
-        }
-
-        private void push(int value) {
-            if (piled >= 0 && piled < pile.length) {
-                pile[piled] = value;
-                piled++;
-            }
-        }
-
-        private int pop() {
-            if (piled < 1 || piled > pile.length) {
-                return 0;
-            }
-            piled--;
-            return pile[piled];
         }
     }
 
@@ -1813,7 +1790,7 @@ public final class NapkinDeeds {
     private static final class Ways {
         /* Six cells have 989 nodes; fewer have fewer. */
         private static final int ROOM = 1024;
-        private static final int SLOTS = 4096;
+        private static final int SLOTS = 2048;
 
         private final int[] keys = new int[ROOM];
         private final int[] parents = new int[ROOM];
@@ -1826,8 +1803,8 @@ public final class NapkinDeeds {
         private final int[] slots = new int[SLOTS];
         private final Lay shown = new Lay();
         private final Lay after = new Lay();
-        private int size = 0;
         private int cells = 0;
+        int size = 0;
 
         /* The same start grows the same nodes, so what has grown is kept. */
         void grow(Lay start) {
@@ -1882,7 +1859,7 @@ public final class NapkinDeeds {
 
         /* Where the first node of a look is told, or would be. */
         private int slotOf(int key) {
-            int slot = key * 0x9E3779B1 >>> 20;
+            int slot = key * 0x9E3779B1 >>> 21;
             for (int i = 0; i < SLOTS; i++) {
                 int first = valueAt(slots, slot);
                 if (first == NONE || keyOf(first) == key) {
@@ -1905,11 +1882,6 @@ public final class NapkinDeeds {
 
         private int keyOf(int node) {
             return valueAt(keys, node);
-        }
-
-        /** Whether there is such a node, by n folds at most. */
-        boolean within(int node, int n) {
-            return node >= 0 && node < size && depthOf(node) <= n;
         }
 
         Lay layOf(int node) {
@@ -1985,17 +1957,26 @@ public final class NapkinDeeds {
             }
         }
 
-        boolean tellsWithin(long least, long most) {
+        boolean tellsFrom(long least) {
             for (int i = 0; i < many; i++) {
-                if (numberAt(i) < least || numberAt(i) > most) {
+                if (numberAt(i) < least) {
                     return false;
                 }
             }
             return true;
         }
 
+        boolean tellsWithin(long least, long most) {
+            for (int i = 0; i < many; i++) {
+                if (numberAt(i) > most) {
+                    return false;
+                }
+            }
+            return tellsFrom(least);
+        }
+
         boolean tellsSight() {
-            return many >= 1 && many <= MOST_CELLS && tellsWithin(NONE, Long.MAX_VALUE);
+            return many >= 1 && many <= MOST_CELLS && tellsFrom(NONE);
         }
 
         boolean tellsEachOnce(int cells) {
