@@ -99,6 +99,7 @@ public final class PromisesTest {
         deeds();
         toldDeeds();
         on();
+        fiveFolds();
         stacksAndCreases();
         guests();
         seen();
@@ -184,6 +185,10 @@ public final class PromisesTest {
         fault("cells 1 back 1;", 2, 0);
         fault("back", 2, 0);
         fault(";", 2, 0);
+        fault("z", 2, 0);
+        fault("cellz 1 back 1;", 2, 0);
+        fault("worth;", 2, 5);
+        fault("holds;", 2, 5);
         fault("cell 1 back 1", 2, 13);
         fault("cell 1 back 1  ", 2, 15);
         fault("cell 1 back", 2, 11);
@@ -414,6 +419,11 @@ public final class PromisesTest {
             due(1, x.judge(0, 1));
             due(3, x.judge(0, 2));
         }
+        for (long deed : new long[] {-1, 10, 23, 1000, 1299, 2000, 2299}) {
+            fill(x, 0, deed);
+            due(-1, x.judge(0, 0));
+            due(0, x.judge(0, 1));
+        }
         fill(x, 0, 200);
         due(2, x.judge(0, 1));
         fill(x, 0, 10, 12, 10);
@@ -594,6 +604,31 @@ public final class PromisesTest {
         due(-1, told(STRIP).step());
         due(-1, told("worth:1;").step());
         due(10, told(STRIP + "worth:folds;").step());
+    }
+
+    /* What six cells come to by five folds alone. */
+    private static void fiveFolds() {
+        NapkinDeeds six = told(times(6, "cell 1 back 2;") + "holds:folds=5;worth:folds;");
+        promise = 25;
+        due(5, six.soonest(0));
+        due(10, six.soonest(10));
+        due(10, six.soonest(14));
+        promise = 27;
+        due(4, six.best(4, 0));
+        due(5, six.best(5, 0));
+        due(10, six.best(5, 14));
+        promise = 32;
+        fill(six, 0, 5, 3, 1, 0, 2, 4);
+        due(5, six.stack(0));
+        promise = 35;
+        fill(six, 0, 2, 1, 2, 1, 2);
+        int[] pleats = {10, 11, 10, 11, 10, -1};
+        for (int k = 0; k < pleats.length; k++) {
+            due(pleats[k], six.madeBy(0, k));
+        }
+        promise = 41;
+        fill(six, 1, -1);
+        due(256, six.seen(1, 3));
     }
 
     private static void stacksAndCreases() {
