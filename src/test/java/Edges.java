@@ -135,11 +135,15 @@ abstract class Edges {
 
     /** So many cells, cell c with mark 10 + c in front and 20 + c at its back, and what more the napkin tells. */
     static NapkinDeeds strip(int cells, String more) {
+        return told(cells(cells) + more);
+    }
+
+    static String cells(int cells) {
         StringBuilder text = new StringBuilder();
         for (int c = 0; c < cells; c++) {
             text.append("cell ").append(10 + c).append(" back ").append(20 + c).append(";");
         }
-        return told(text + more);
+        return text.toString();
     }
 
     static NapkinDeeds strip(int cells) {

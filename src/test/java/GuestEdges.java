@@ -18,6 +18,9 @@ final class GuestEdges extends Edges {
         due(8, folded(strip(2, guests(0, 0, 0, 1) + "likes:0-folds*want;"), 10).refuse());
         due(1, folded(strip(2, guests(1, 0, 0, 0) + "likes:0-folds*want;"), 10).refuse());
         due(6, folded(strip(2, guests(0, 1, 2, 0) + "likes:0-folds*want;"), 10).refuse());
+        due(1, folded(strip(2, guests(1, 0) + "likes:wide*want;"), 10).refuse());
+        due(2, folded(strip(2, guests(0, 2) + "likes:0-high*want;"), 10).refuse());
+        due(0, folded(strip(2, guests(1, 1) + "likes:hidden+top;"), 12).refuse());
     }
 
     @Says(promise = 37, value = "who LIKE it less than FLAT")

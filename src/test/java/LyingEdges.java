@@ -229,6 +229,12 @@ final class LyingEdges extends Edges {
             due(flat[i], x.worth());
             due(once[i], folded(x, 10).worth());
             due(twice[i], folded(x, 13).worth());
+            NapkinDeeds y = told(STRIP + "guest 99;guest 98;likes:" + facts[i] + ";");
+            due(flat[i], y.likes(1));
+            due(once[i], folded(y, 10).likes(1));
+            y.best(5, 0);
+            due(once[i], y.likes(1));
+            due(twice[i], folded(y, 13).likes(0));
         }
     }
 

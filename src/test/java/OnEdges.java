@@ -1,4 +1,5 @@
 import java.util.ArrayList;
+import java.util.Arrays;
 import java.util.HashSet;
 import java.util.List;
 import java.util.Set;
@@ -75,6 +76,27 @@ final class OnEdges extends Edges {
         for (int n : NOT_SO_MANY_FOLDS) {
             refused(ARGUMENT, x -> x.rows(n));
             refused(ARGUMENT, NapkinDeeds::new, x -> x.rows(n));
+        }
+    }
+
+    @Says(promise = TERMS, value = "how it can lie by n FOLDS more (0 to 5) at most, told as rows of FOLDS")
+    static void nothingIsLeftOfAnEarlierSearch() {
+        String more = "guest 3;guest 4;worth:top-under*high;holds:high=wide;likes:want*top-guest*under*high;";
+        NapkinDeeds used = strip(6, more);
+        for (int[] row : new int[][] {{53, 31, 21, 10}, {30, 20, 10}}) {
+            due(Probe.searches(strip(6, more)), Probe.searches(used));
+            for (int many = 1; many <= row.length; many++) {
+                int[] begun = Arrays.copyOf(row, many);
+                folded(used, row[many - 1]);
+                due(Probe.searches(folded(strip(6, more), begun)), Probe.searches(used));
+            }
+            used.shake();
+        }
+        for (int cells = 5; cells >= 0; cells--) {
+            NapkinDeeds anew = strip(cells, more);
+            tell(used, cells(cells) + more);
+            due(Probe.searches(anew), Probe.searches(used));
+            due(Probe.searches(anew), Probe.searches(used));
         }
     }
 

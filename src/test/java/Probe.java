@@ -1,3 +1,5 @@
+import java.util.Arrays;
+
 /** Asks all that an object can be asked, so that two objects in one state answer alike and others don't. */
 final class Probe {
     private final NapkinDeeds x;
@@ -24,6 +26,37 @@ final class Probe {
         p.pastDeeds();
         p.images();
         p.tape();
+        return p.answers.toString();
+    }
+
+    /** What all searches answer; the trays 0 to 2 are used up then. */
+    static String searches(NapkinDeeds x) {
+        Probe p = new Probe(x);
+        int cells = x.count(1);
+        long[] stack = new long[cells];
+        long[] creases = new long[Math.max(0, cells - 1)];
+        for (int c = 0; c < cells; c++) {
+            stack[c] = c;
+        }
+        for (int k = 0; k < creases.length; k++) {
+            creases[k] = 2 - k % 2;
+        }
+        Edges.fill(x, 0, stack);
+        Edges.fill(x, 1, creases);
+        p.searches();
+        p.ask(() -> x.stands(0) ? 1 : 0);
+        p.ask(() -> x.stack(0));
+        p.ask(() -> x.made(1));
+        p.ask(() -> x.madeBy(1, 0));
+        for (int marks = 1; marks <= 6; marks++) {
+            long[] any = new long[marks];
+            Arrays.fill(any, NapkinDeeds.NONE);
+            Edges.fill(x, 2, any);
+            p.ask(() -> x.reads(2, 0));
+            p.ask(() -> x.seen(2, 4));
+            p.ask(() -> x.sure(2, 4));
+            p.ask(() -> x.look(2, 4));
+        }
         return p.answers.toString();
     }
 

@@ -136,6 +136,9 @@ final class SeenEdges extends Edges {
         due(0, see(2, 10, 11).look(0, 0));
         due(0, see(6, 10, 11, 12, 13, 14, 15).look(0, 4));
         due(0, see(2, -1).look(0, 1));
+        due(0, filled(told("cell 0 back 0;cell 0 back 0;"), -1).look(0, 1));
+        due(0, filled(told("cell 0 back 0;cell 0 back 0;"), 0, 0).look(0, 0));
+        due(0, filled(told("cell 99 back 99;cell 99 back 99;"), -1).look(0, 1));
         due(-1, see(2, -1).look(0, 0));
         due(-1, see(2, 99).look(0, 4));
         due(-1, see(2, -1, -1, -1).look(0, 4));

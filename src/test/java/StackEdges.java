@@ -79,7 +79,7 @@ final class StackEdges extends Edges {
 
     private static void notAStack(Asked asked) {
         long[][] rows = {{}, {0, 1}, {0, 1, 2, 3}, {0, 1, 1}, {2, 1, 2}, {0, 1, 3}, {0, -1, 2}, {0, 1, 1L << 32 | 2},
-            {0, 0, 0}, {Long.MIN_VALUE, 1, 2}, {0, 1, Long.MAX_VALUE}, {0, 1, 2, 0}};
+            {0, 0, 0}, {3, 0, 1}, {-1, 0, 1}, {Long.MIN_VALUE, 1, 2}, {0, 1, Long.MAX_VALUE}, {0, 1, 2, 0}};
         for (long[] row : rows) {
             refused(ARGUMENT, () -> filled(strip(3), row), x -> asked.on(x, 0));
         }
@@ -101,6 +101,20 @@ final class StackEdges extends Edges {
     @Says(promise = 30, value = "throws NoSuchElementException, IllegalStateException, IllegalArgumentException")
     static void noTrayThatStands() {
         noTray((x, tray) -> x.stands(tray));
+    }
+
+    @Says(promise = 30, value = "Whether a STACK STANDS.")
+    static void stacksOneAfterAnother() {
+        NapkinDeeds x = stack(3, 1, 2, 0);
+        dueFalse(x.stands(0));
+        fill(x, 0, 0, 2, 3, 1);
+        dueTrue(x.stands(0));
+        x.stacks();
+        fill(x, 0, 2, 0, 3, 1);
+        dueFalse(x.stands(0));
+        x.stacks();
+        fill(x, 0, 3, 2, 1, 0);
+        dueTrue(x.stands(0));
     }
 
     // ---- promise 31
@@ -213,7 +227,7 @@ final class StackEdges extends Edges {
     }
 
     private static void notAllCreases(Asked asked) {
-        long[][] rows = {{}, {0}, {0, 0, 0}, {0, 3}, {-1, 0}, {0, 1L << 32}, {Long.MIN_VALUE, 0}, {0, Long.MAX_VALUE}};
+        long[][] rows = {{}, {0}, {0, 0, 0}, {0, 3}, {3, 0}, {-1, 0}, {0, -1}, {0, 1L << 32}, {Long.MIN_VALUE, 0}, {0, Long.MAX_VALUE}};
         for (long[] row : rows) {
             refused(ARGUMENT, () -> filled(strip(3), row), x -> asked.on(x, 0));
         }
@@ -283,5 +297,12 @@ final class StackEdges extends Edges {
             found += made(i / 27, i / 9 % 3, i / 3 % 3, i % 3) > 0 ? 1 : 0;
         }
         due(77, found);
+        NapkinDeeds x = strip(4);
+        for (int i = 0; i < 2; i++) {
+            due(27, x.patterns());
+            due(16, x.simple());
+            due(16, x.simple());
+            due(27, x.patterns());
+        }
     }
 }

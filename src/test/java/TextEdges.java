@@ -1,5 +1,10 @@
 /** Edges of the napkin's text, the tape and the fault: promises 1 to 4. */
 final class TextEdges extends Edges {
+    @Says(promise = TERMS, value = "public static final int NONE = -1;")
+    static void none() {
+        due(-1, NapkinDeeds.NONE);
+    }
+
     // ---- the text
 
     @Says(promise = TERMS, value = "THE NAPKIN is a TEXT of at most 900 bytes")
@@ -71,6 +76,11 @@ final class TextEdges extends Edges {
         fault(2, 6, "worth:;");
         fault(2, 6, "holds:;");
         fault(2, 6, "likes:;");
+        fault(2, 5, "worth;");
+        fault(2, 5, "holds;");
+        fault(2, 5, "likes;");
+        fault(2, 5, "guest;");
+        fault(2, 4, "cell;");
     }
 
     // ---- the language of laws
@@ -85,6 +95,10 @@ final class TextEdges extends Edges {
         dueFalse(told("holds:not 1=2 and 1=2;").holds());
         dueTrue(told("holds:not[1=2 and 1=2];").holds());
         dueTrue(told("holds:not not 1=1;").holds());
+        fault(2, 12, "holds:1=1 or;");
+        fault(2, 13, "holds:1=1 and;");
+        fault(2, 9, "holds:not;");
+        fault(2, 7, "holds:[];");
     }
 
     @Says(promise = TERMS, value = "SUM, one of = < >, SUM")
@@ -95,6 +109,10 @@ final class TextEdges extends Edges {
         dueFalse(told("holds:5<5;").holds());
         dueTrue(told("holds:6>5;").holds());
         dueFalse(told("holds:5>5;").holds());
+        dueTrue(told("holds:5<6 and 5=5 and 6>5;").holds());
+        dueTrue(told("holds:5=6 or 5<6;").holds());
+        dueTrue(told("holds:5=6 or 6>5;").holds());
+        dueFalse(told("holds:not 5<6 or not 6>5 or not 5=5;").holds());
         fault(2, 8, "holds:1<=2;");
         fault(2, 9, "holds:1=1=1;");
         fault(2, 6, "holds:=1;");
@@ -113,6 +131,8 @@ final class TextEdges extends Edges {
         fault(2, 6, "worth:-1;");
         fault(2, 6, "worth:+1;");
         fault(2, 8, "worth:1+;");
+        fault(2, 8, "worth:1-;");
+        fault(2, 8, "worth:1*;");
         fault(2, 8, "worth:1+-1;");
         fault(2, 7, "worth:();");
         fault(2, 7, "worth:1(2);");

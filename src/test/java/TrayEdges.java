@@ -209,8 +209,10 @@ final class TrayEdges extends Edges {
         x.image(0);
         x.shake();
         x.amend(2, 0, 55);
-        due(4, tell(x, "guest 1;worth:9;holds:1=1;likes:8;"));
-        x.evening(1, 30);
+        due(6, tell(x, "cell 5 back 6;guest 1;worth:9;holds:1=1;likes:8;cell 7 back 8;"));
+        for (int i = 0; i < 12; i++) {
+            x.amend(1, 1, i);
+        }
         x.restore(0);
         NapkinDeeds y = used();
         y.image(0);
