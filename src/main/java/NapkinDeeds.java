@@ -70,7 +70,6 @@ public final class NapkinDeeds {
     private final Reader reader = new Reader();
     private final Table table = new Table();
     private final Table[] pictures = new Table[IMAGES];
-    private final boolean[] pictured = new boolean[IMAGES];
     private final Tray[] trays = new Tray[TRAYS];
     private final Scale scale = new Scale();
     private final Ways waysOn = new Ways();
@@ -932,15 +931,14 @@ public final class NapkinDeeds {
     }
 
     public void image(int i) throws NoSuchElementException {
-        pictureAt(i).take(table);
-        if (i >= 0 && i < pictured.length) {
-            pictured[i] = true;
-        }
+        Table picture = pictureAt(i);
+        picture.take(table);
+        picture.isMade = true;
     }
 
     public void restore(int i) throws NoSuchElementException, IllegalStateException {
         Table picture = pictureAt(i);
-        if (i >= pictured.length || !pictured[i]) {
+        if (!picture.isMade) {
             throw new IllegalStateException("no image was made");
         }
         table.take(picture);
@@ -1448,6 +1446,8 @@ public final class NapkinDeeds {
         final Moment now = new Moment();
         private final Moment[] past = new Moment[MOST_UNDONE];
         int pasts = 0;
+        /* Of an image: whether anything was ever kept in it. */
+        boolean isMade = false;
 
         Table() {
             for (int i = 0; i < past.length; i++) {
@@ -1550,7 +1550,7 @@ public final class NapkinDeeds {
         }
 
         private void lay(int c, boolean isUp) {
-            if (laid >= 0 && laid < who.length) {
+            if (laid >= 0 && laid < who.length && laid < up.length) {
                 who[laid] = c;
                 up[laid] = isUp;
                 laid++;
